@@ -585,14 +585,10 @@ public final class SectionGarden {
         final ArrayList<Symbol> symbols = new ArrayList<>();
         final ArrayList<Relocation> relocations = new ArrayList<>();
         final int[] roots = new int[MOST_ROOTS];
-        final int[] bases = new int[KINDS];
+        final int[] bases = {NONE, NONE, NONE, NONE};
         int objects;
         int rootCount;
         int sizes;
-
-        Told() {
-            Arrays.fill(bases, NONE);
-        }
 
         boolean hasObject(int object) {
             return object >= 0 && object < objects;

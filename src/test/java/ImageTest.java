@@ -23,10 +23,12 @@ final class ImageTest {
         veneersAreShared();
         veneersInRounds();
         veneersStay();
+        veneersAreFoundAnew();
         veneersForFoldedTargets();
         veneersFarBehind();
         kindsOverOneAnother();
         faultsOfPlacesKeepTheRest();
+        aFaultTakesTheImageAway();
         due.end();
     }
 
@@ -158,6 +160,17 @@ final class ImageTest {
         dueLink(x, "the other way round", 0, NONE);
         due.is("START", x.value(start), 108);
         due.is("STOP", x.value(stop), 9005);
+        x.mark(1, 1, 0);
+        x.mark(2, 1, NONE);
+        x.mark(0, 1, 0);
+        dueLink(x, "another set", 0, NONE);
+        due.is("START of none", x.value(start), 0);
+        due.is("STOP of none", x.value(stop), 0);
+        int first = x.symbol(0, 0, -2, 0, 0);
+        int last = x.symbol(0, 0, -10, 0, 0);
+        dueLink(x, "the set 0", 0, NONE);
+        due.is("START of 0", x.value(first), 100);
+        due.is("STOP of 0", x.value(last), 116);
     }
 
     /** A section of code at 4096 with one relocation at its byte 8, by a WEAK symbol that is NOWHERE: V is the addend. */
@@ -305,6 +318,26 @@ final class ImageTest {
         due.is("V as all is placed at last", numberAt(x, 4104, 4), (4108L - 32768 - 8) & 0xFFFFFFFFL);
     }
 
+    private static void veneersAreFoundAnew() {
+        SectionGarden x = withKeptSections(0, 4, 2, 4);
+        int far = x.symbol(0, 1, 1, 0, 0);
+        x.relocation(0, 0, BRANCH, far, 0);
+        x.base(2, 100000);
+        for (int i = 0; i < 3; i++) {
+            dueLink(x, "once more", 0, NONE);
+            due.is("veneers(0)", x.veneers(0), 1);
+            due.is("count(7)", x.count(7), 2);
+            due.is("count(8)", x.count(8), 1);
+            due.is("range(0, true)", x.range(0, true), 4108);
+        }
+        x.base(2, NONE);
+        dueLink(x, "near by now", 0, NONE);
+        due.is("veneers(0)", x.veneers(0), 0);
+        due.is("count(7)", x.count(7), 1);
+        due.is("count(8)", x.count(8), 0);
+        due.is("the branch", numberAt(x, 4096, 2), 4);
+    }
+
     private static void veneersForFoldedTargets() {
         SectionGarden x = withKeptSections(0, 8);
         x.section(0, 1, 4, 0, 3);
@@ -389,5 +422,22 @@ final class ImageTest {
         due.is("fault 6: veneers(0)", x.veneers(0), STATE);
         due.isIllegalState("fault 6: place(0)", () -> x.place(0));
         due.isIllegalState("fault 6: range(0, true)", () -> x.range(0, true));
+    }
+
+    /** Folding moves the data down, and then a WORD no longer fits. */
+    private static void aFaultTakesTheImageAway() {
+        SectionGarden x = withKeptSections(0, 8, 2, 4);
+        x.section(0, 0, 4, 0, 3);
+        x.section(0, 0, 4, 0, 3);
+        x.relocation(0, 0, BRANCH, x.symbol(0, 1, 2, 0, 0), 0);
+        x.relocation(0, 4, BRANCH, x.symbol(0, 2, 3, 0, 0), 0);
+        x.relocation(1, 0, WORD, x.symbol(0, 3, 1, 0, 0), -4096 - 16);
+        dueLink(x, "without folding", 0, NONE);
+        due.is("the WORD", numberAt(x, 4112, 4), 0);
+        due.is("with folding: link(true)", x.link(true), 6);
+        due.is("with folding: fault()", x.fault(), 2);
+        due.is("with folding: octet(4096)", x.octet(4096), STATE);
+        dueLink(x, "without folding again", 0, NONE);
+        due.is("octet(4112)", x.octet(4112), 0);
     }
 }

@@ -94,6 +94,14 @@ final class KeptTest {
         dueKept(x, 3, 6, 2);
         dueKept(x, 1, NONE, NONE);
         due.is("count(5)", x.count(5), 7);
+        x.mark(2, 2, NONE);
+        x.mark(6, 0, 1);
+        dueLink(x, "rows found anew", false, 0, NONE);
+        dueKept(x, 0, NONE, NONE);
+        dueKept(x, 6, 2, NONE);
+        dueKept(x, 4, 3, NONE);
+        dueKept(x, 7, 4, 2);
+        due.is("count(5)", x.count(5), 5);
     }
 
     private static void groupsToldTwice() {
@@ -257,6 +265,15 @@ final class KeptTest {
         dueKept(x, 0, 1, 2);
         dueKept(x, 1, NONE, NONE);
         due.is("LOST", x.kept(1, 3), 1);
+        SectionGarden y = withObjects(2);
+        y.section(0, 2, 8, 0, 0);
+        y.section(1, 2, 8, 0, 0);
+        y.section(1, 2, 8, 0, 0);
+        y.mark(0, 2, 3);
+        y.mark(1, 2, 3);
+        y.mark(2, 0, 1);
+        y.relocation(2, 0, 0, y.symbol(1, 1, 1, 0, 0), 0);
+        dueLink(y, "the first relocation of all", true, 4, 0);
     }
 
     private static void firstKindOfFault() {

@@ -146,8 +146,10 @@ final class ToldTest {
 
     private static void symbols() {
         SectionGarden x = withObjects(2);
+        due.is("no section yet", x.symbol(0, 0, 0, 0, 1), UNKNOWN);
         x.section(0, 0, 4, 0, 0);
         x.section(1, 3, 4, 0, 0);
+        due.is("another's first section", x.symbol(1, 0, 0, 0, 1), UNKNOWN);
         due.is("at the end", x.symbol(0, 63, 0, 4, 0), 0);
         due.is("of zeros", x.symbol(1, 0, 1, 0, 2), 1);
         due.is("undefined GLOBAL", x.symbol(0, 0, NONE, 0, 1), 2);
