@@ -379,6 +379,16 @@ public final class SectionGarden {
         }
     }
 
+    /** A byte of a section that is no longer told by the section's seed. */
+    private static final class Patch {
+        final int at;
+        int value;
+
+        Patch(int at) {
+            this.at = at;
+        }
+    }
+
     /** What was told of a section, and what the latest link found of it. */
     private static final class Section {
         final int number;
@@ -388,7 +398,8 @@ public final class SectionGarden {
         final int align;
         final int seed;
         final ArrayList<Relocation> relocations = new ArrayList<>();
-        private byte[] patchedBytes;
+        // Few bytes are ever patched: the seed tells all others, so that no section needs a row of its size.
+        private final ArrayList<Patch> patches = new ArrayList<>();
         boolean keep;
         int set = NONE;
         int group = NONE;
@@ -413,39 +424,45 @@ public final class SectionGarden {
         }
 
         int byteAt(int i) {
-            if (patchedBytes != null && i >= 0 && i < patchedBytes.length) {
-                return patchedBytes[i] & 255;
-            }
-            return (seed + i) & 255;
+            Patch patch = patchAt(i);
+            return patch == null ? (seed + i) & 255 : patch.value;
         }
 
         void setByte(int i, int v) {
-            if (i < 0 || i >= size) {
-                return;
+            Patch patch = patchAt(i);
+            if (patch == null) {
+                patch = new Patch(i);
+                patches.add(patch);
             }
-            if (patchedBytes == null) {
-                patchedBytes = seededBytes();
-            }
-            if (i < patchedBytes.length) {
-                patchedBytes[i] = (byte) v;
-            }
+            patch.value = v & 255;
         }
 
-        // Only a section that is patched needs a row of its own: the seed tells all others' bytes.
-        private byte[] seededBytes() {
-            byte[] bytes = new byte[size < 0 ? 0 : size];
-            for (int i = 0; i < bytes.length; i++) {
-                bytes[i] = (byte) (seed + i);
+        private Patch patchAt(int i) {
+            for (int p = 0; p < patches.size(); p++) {
+                if (patches.get(p).at == i) {
+                    return patches.get(p);
+                }
             }
-            return bytes;
+            return null;
         }
 
+        /** Whether the bytes are the same as those of a section of the same size. */
         boolean hasBytesOf(Section other) {
-            if (patchedBytes == null && other.patchedBytes == null) {
-                return size == 0 || ((seed ^ other.seed) & 255) == 0;
+            if (((seed ^ other.seed) & 255) == 0) {
+                return agreesWherePatched(other) && other.agreesWherePatched(this);
             }
             for (int i = 0; i < size; i++) {
                 if (byteAt(i) != other.byteAt(i)) {
+                    return false;
+                }
+            }
+            return true;
+        }
+
+        private boolean agreesWherePatched(Section other) {
+            for (int p = 0; p < patches.size(); p++) {
+                Patch patch = patches.get(p);
+                if (patch.value != other.byteAt(patch.at)) {
                     return false;
                 }
             }
