@@ -216,10 +216,14 @@ final class PlainModel {
     private void findFolded(boolean wanted) {
         folded = new HashMap<>();
         int n = sections.size();
+        boolean[] may = new boolean[n];
+        for (int a = 0; a < n; a++) {
+            may[a] = wanted && mayFold(a);
+        }
         boolean[][] alike = new boolean[n][n];
         for (int a = 0; a < n; a++) {
             for (int b = 0; b < n; b++) {
-                alike[a][b] = wanted && a != b && mayFold(a) && mayFold(b);
+                alike[a][b] = a != b && may[a] && may[b];
             }
         }
         boolean changed = true;
