@@ -32,31 +32,13 @@ final class ImageTest {
         due.end();
     }
 
-    private static SectionGarden withKeptSections(int... kindsAndSizes) {
-        SectionGarden x = new SectionGarden();
-        x.object();
-        for (int i = 0; i + 1 < kindsAndSizes.length; i += 2) {
-            int number = x.section(0, kindsAndSizes[i], kindsAndSizes[i + 1], 0, 0);
-            x.mark(number, 0, 1);
-        }
-        return x;
-    }
-
     private static void dueLink(SectionGarden x, String what, int kind, int number) {
         due.is(what + ": link(false)", x.link(false), kind);
         due.is(what + ": fault()", x.fault(), number);
     }
 
-    private static long numberAt(SectionGarden x, long place, int width) {
-        long number = 0;
-        for (int i = width - 1; i >= 0; i--) {
-            number = 256 * number + x.octet(place + i);
-        }
-        return number;
-    }
-
     private static void wrongCalls() {
-        SectionGarden x = withKeptSections(0, 4);
+        SectionGarden x = Gardens.keeping(0, 4);
         x.section(0, 0, 4, 0, 0);
         x.symbol(0, 1, 0, 0, 1);
         x.symbol(0, 2, 1, 0, 1);
@@ -112,7 +94,7 @@ final class ImageTest {
     }
 
     private static void placesWithBases() {
-        SectionGarden x = withKeptSections(0, 3, 2, 5);
+        SectionGarden x = Gardens.keeping(0, 3, 2, 5);
         x.base(1, 2000000000);
         x.base(3, 7);
         dueLink(x, "bases", 0, NONE);
@@ -130,7 +112,7 @@ final class ImageTest {
     }
 
     private static void octets() {
-        SectionGarden x = withKeptSections(0, 3);
+        SectionGarden x = Gardens.keeping(0, 3);
         x.section(0, 3, 2, 2, 77);
         x.mark(1, 0, 1);
         x.patch(0, 1, 200);
@@ -142,7 +124,7 @@ final class ImageTest {
     }
 
     private static void valuesOfSets() {
-        SectionGarden x = withKeptSections(2, 8, 3, 8, 0, 5);
+        SectionGarden x = Gardens.keeping(2, 8, 3, 8, 0, 5);
         int start = x.symbol(0, 0, -2 - 7, 0, 0);
         int stop = x.symbol(0, 0, -10 - 7, 0, 0);
         dueLink(x, "no such set", 0, NONE);
@@ -175,7 +157,7 @@ final class ImageTest {
 
     /** A section of code at 4096 with one relocation at its byte 8, by a WEAK symbol that is NOWHERE: V is the addend. */
     private static int faultFor(int type, int addend) {
-        SectionGarden x = withKeptSections(0, 16);
+        SectionGarden x = Gardens.keeping(0, 16);
         int nowhere = x.symbol(0, 0, NONE, 0, 2);
         x.relocation(0, 8, type, nowhere, addend);
         return x.link(false);
@@ -197,7 +179,7 @@ final class ImageTest {
         due.is("BYTE 255", faultFor(BYTE, 255), 0);
         due.is("BYTE 256", faultFor(BYTE, 256), 6);
 
-        SectionGarden x = withKeptSections(0, 16, 2, 0);
+        SectionGarden x = Gardens.keeping(0, 16, 2, 0);
         int far = x.symbol(0, 1, 1, 0, 1);
         x.relocation(0, 0, WORD, far, Integer.MAX_VALUE);
         x.relocation(0, 4, NEAR, far, 147483647 + 4100);
@@ -205,9 +187,9 @@ final class ImageTest {
         x.relocation(0, 10, BYTE, far, -2000000001);
         x.base(2, 2000000000);
         dueLink(x, "types", 0, NONE);
-        due.is("WORD", numberAt(x, 4096, 4), 4147483647L);
-        due.is("NEAR", numberAt(x, 4100, 4), 2147483647L);
-        due.is("HALF", numberAt(x, 4104, 2), 32767);
+        due.is("WORD", Gardens.numberAt(x, 4096, 4), 4147483647L);
+        due.is("NEAR", Gardens.numberAt(x, 4100, 4), 2147483647L);
+        due.is("HALF", Gardens.numberAt(x, 4104, 2), 32767);
         due.is("BYTE", x.octet(4106), 255);
         due.is("behind them", x.octet(4107), 11);
         x.relocation(0, 12, NEAR, far, 147483647 + 4109);
@@ -217,7 +199,7 @@ final class ImageTest {
     }
 
     private static void relocationsOverOneAnother() {
-        SectionGarden x = withKeptSections(2, 6);
+        SectionGarden x = Gardens.keeping(2, 6);
         int here = x.symbol(0, 1, 0, 0, 0);
         x.relocation(0, 1, WORD, here, 0x01020304 - 4096);
         x.relocation(0, 2, HALF, here, 0x0506 - 4096);
@@ -229,16 +211,16 @@ final class ImageTest {
     }
 
     private static int veneersFor(int addend) {
-        SectionGarden x = withKeptSections(0, 16);
+        SectionGarden x = Gardens.keeping(0, 16);
         int here = x.symbol(0, 0, 0, 8, 0);
         x.relocation(0, 8, BRANCH, here, addend);
         dueLink(x, "branch by " + addend, 0, NONE);
         due.is("count(8)", x.count(8), x.veneers(0));
         due.is("count(7)", x.count(7), 1 + x.veneers(0));
-        due.is("the branch", numberAt(x, 4104, 2), x.veneers(0) == 0 ? addend & 65535 : 8);
+        due.is("the branch", Gardens.numberAt(x, 4104, 2), x.veneers(0) == 0 ? addend & 65535 : 8);
         if (x.veneers(0) == 1) {
-            due.is("its veneer begins", numberAt(x, 4112, 4), 234);
-            due.is("its veneer", numberAt(x, 4116, 4), (4104L + addend) & 0xFFFFFFFFL);
+            due.is("its veneer begins", Gardens.numberAt(x, 4112, 4), 234);
+            due.is("its veneer", Gardens.numberAt(x, 4116, 4), (4104L + addend) & 0xFFFFFFFFL);
             due.is("behind it", x.octet(4120), NONE);
             due.is("range(0, true)", x.range(0, true), 4120);
         }
@@ -255,7 +237,7 @@ final class ImageTest {
     }
 
     private static void veneersAreShared() {
-        SectionGarden x = withKeptSections(0, 21, 0, 4, 2, 8);
+        SectionGarden x = Gardens.keeping(0, 21, 0, 4, 2, 8);
         int far = x.symbol(0, 1, 2, 4, 1);
         int same = x.symbol(0, 2, 2, 4, 0);
         int other = x.symbol(0, 2, 2, 0, 0);
@@ -275,21 +257,21 @@ final class ImageTest {
         due.is("count(7)", x.count(7), 2);
         due.is("place(1)", x.place(1), 4096 + 24 + 24);
         int[] branches = {24, 30, 20, 34, 24};
-        due.is("branch to the first", numberAt(x, 4096, 2), branches[0]);
-        due.is("branch to the second", numberAt(x, 4098, 2), branches[1]);
-        due.is("branch to the first again", numberAt(x, 4100, 2), branches[2]);
-        due.is("branch to the third", numberAt(x, 4102, 2), branches[3]);
-        due.is("branch to the second again", numberAt(x, 4104, 2), branches[4]);
+        due.is("branch to the first", Gardens.numberAt(x, 4096, 2), branches[0]);
+        due.is("branch to the second", Gardens.numberAt(x, 4098, 2), branches[1]);
+        due.is("branch to the first again", Gardens.numberAt(x, 4100, 2), branches[2]);
+        due.is("branch to the third", Gardens.numberAt(x, 4102, 2), branches[3]);
+        due.is("branch to the second again", Gardens.numberAt(x, 4104, 2), branches[4]);
         due.is("nothing before the veneers", x.octet(4096 + 22), NONE);
-        due.is("first veneer", numberAt(x, 4120 + 4, 4), 100004);
-        due.is("second veneer", numberAt(x, 4128 + 4, 4), 100004);
-        due.is("third veneer", numberAt(x, 4136 + 4, 4), 100000);
-        due.is("the other's veneer", numberAt(x, 4148 + 4, 4), 100004);
+        due.is("first veneer", Gardens.numberAt(x, 4120 + 4, 4), 100004);
+        due.is("second veneer", Gardens.numberAt(x, 4128 + 4, 4), 100004);
+        due.is("third veneer", Gardens.numberAt(x, 4136 + 4, 4), 100000);
+        due.is("the other's veneer", Gardens.numberAt(x, 4148 + 4, 4), 100004);
     }
 
     /** Section 1 branches over the veneers that section 0 and 2 get, only just near enough without them. */
     private static void veneersInRounds() {
-        SectionGarden x = withKeptSections(0, 4, 0, 4, 0, 4, 0, 4);
+        SectionGarden x = Gardens.keeping(0, 4, 0, 4, 0, 4, 0, 4);
         int three = x.symbol(0, 1, 3, 0, 0);
         int zero = x.symbol(0, 2, 0, 0, 0);
         x.relocation(2, 0, BRANCH, three, 40000);
@@ -307,19 +289,19 @@ final class ImageTest {
 
     /** The branch of section 0 is too far at first; the veneers behind it move its target nearer again. */
     private static void veneersStay() {
-        SectionGarden x = withKeptSections(0, 4, 0, 4);
+        SectionGarden x = Gardens.keeping(0, 4, 0, 4);
         int one = x.symbol(0, 1, 1, 0, 0);
         x.relocation(0, 0, BRANCH, one, -32768 - 4 - 4);
         dueLink(x, "for ever", 0, NONE);
         due.is("veneers(0)", x.veneers(0), 1);
         due.is("count(7)", x.count(7), 2);
         due.is("place(1)", x.place(1), 4108);
-        due.is("the branch goes to the veneer", numberAt(x, 4096, 2), 4);
-        due.is("V as all is placed at last", numberAt(x, 4104, 4), (4108L - 32768 - 8) & 0xFFFFFFFFL);
+        due.is("the branch goes to the veneer", Gardens.numberAt(x, 4096, 2), 4);
+        due.is("V as all is placed at last", Gardens.numberAt(x, 4104, 4), (4108L - 32768 - 8) & 0xFFFFFFFFL);
     }
 
     private static void veneersAreFoundAnew() {
-        SectionGarden x = withKeptSections(0, 4, 2, 4);
+        SectionGarden x = Gardens.keeping(0, 4, 2, 4);
         int far = x.symbol(0, 1, 1, 0, 0);
         x.relocation(0, 0, BRANCH, far, 0);
         x.base(2, 100000);
@@ -335,11 +317,11 @@ final class ImageTest {
         due.is("veneers(0)", x.veneers(0), 0);
         due.is("count(7)", x.count(7), 1);
         due.is("count(8)", x.count(8), 0);
-        due.is("the branch", numberAt(x, 4096, 2), 4);
+        due.is("the branch", Gardens.numberAt(x, 4096, 2), 4);
     }
 
     private static void veneersForFoldedTargets() {
-        SectionGarden x = withKeptSections(0, 8);
+        SectionGarden x = Gardens.keeping(0, 8);
         x.section(0, 1, 4, 0, 3);
         x.section(0, 1, 4, 0, 3);
         int one = x.symbol(0, 1, 1, 0, 0);
@@ -350,19 +332,19 @@ final class ImageTest {
         due.is("folded targets: link(true)", x.link(true), 0);
         due.is("kept(2, 2)", x.kept(2, 2), 1);
         due.is("TARGETS are two", x.veneers(0), 2);
-        due.is("first veneer", numberAt(x, 4108, 4), 100000);
-        due.is("second veneer", numberAt(x, 4116, 4), 100000);
+        due.is("first veneer", Gardens.numberAt(x, 4108, 4), 100000);
+        due.is("second veneer", Gardens.numberAt(x, 4116, 4), 100000);
     }
 
     private static void veneersFarBehind() {
-        SectionGarden x = withKeptSections(0, 20000, 2, 4);
+        SectionGarden x = Gardens.keeping(0, 20000, 2, 4);
         int far = x.symbol(0, 1, 1, 0, 0);
         x.relocation(0, 0, BRANCH, far, 0);
         x.base(2, 100000);
         dueLink(x, "20000 bytes are not too far for a veneer", 0, NONE);
-        due.is("the branch", numberAt(x, 4096, 2), 20000);
+        due.is("the branch", Gardens.numberAt(x, 4096, 2), 20000);
 
-        SectionGarden y = withKeptSections(0, 20000, 2, 4);
+        SectionGarden y = Gardens.keeping(0, 20000, 2, 4);
         int there = y.symbol(0, 1, 1, 0, 0);
         y.base(2, 100000);
         for (int i = 0; i < 180; i++) {
@@ -370,11 +352,11 @@ final class ImageTest {
         }
         dueLink(y, "180 veneers", 0, NONE);
         due.is("veneers(0)", y.veneers(0), 180);
-        due.is("the last branch is written last", numberAt(y, 4096, 2), 20000 + 179 * 8);
+        due.is("the last branch is written last", Gardens.numberAt(y, 4096, 2), 20000 + 179 * 8);
     }
 
     private static void kindsOverOneAnother() {
-        SectionGarden x = withKeptSections(0, 10, 1, 10, 2, 10, 3, 10);
+        SectionGarden x = Gardens.keeping(0, 10, 1, 10, 2, 10, 3, 10);
         x.base(0, 100);
         x.base(1, 110);
         dueLink(x, "side by side", 0, NONE);
@@ -401,7 +383,7 @@ final class ImageTest {
     }
 
     private static void faultsOfPlacesKeepTheRest() {
-        SectionGarden x = withKeptSections(0, 8);
+        SectionGarden x = Gardens.keeping(0, 8);
         x.section(0, 0, 4, 0, 3);
         x.section(0, 0, 4, 0, 3);
         x.symbol(0, 1, 1, 0, 0);
@@ -426,14 +408,14 @@ final class ImageTest {
 
     /** Folding moves the data down, and then a WORD no longer fits. */
     private static void aFaultTakesTheImageAway() {
-        SectionGarden x = withKeptSections(0, 8, 2, 4);
+        SectionGarden x = Gardens.keeping(0, 8, 2, 4);
         x.section(0, 0, 4, 0, 3);
         x.section(0, 0, 4, 0, 3);
         x.relocation(0, 0, BRANCH, x.symbol(0, 1, 2, 0, 0), 0);
         x.relocation(0, 4, BRANCH, x.symbol(0, 2, 3, 0, 0), 0);
         x.relocation(1, 0, WORD, x.symbol(0, 3, 1, 0, 0), -4096 - 16);
         dueLink(x, "without folding", 0, NONE);
-        due.is("the WORD", numberAt(x, 4112, 4), 0);
+        due.is("the WORD", Gardens.numberAt(x, 4112, 4), 0);
         due.is("with folding: link(true)", x.link(true), 6);
         due.is("with folding: fault()", x.fault(), 2);
         due.is("with folding: octet(4096)", x.octet(4096), STATE);

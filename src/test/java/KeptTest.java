@@ -30,14 +30,6 @@ final class KeptTest {
         due.end();
     }
 
-    private static SectionGarden withObjects(int objects) {
-        SectionGarden x = new SectionGarden();
-        for (int i = 0; i < objects; i++) {
-            x.object();
-        }
-        return x;
-    }
-
     private static void dueKept(SectionGarden x, int section, int row, int by) {
         due.is("kept(" + section + ", 0)", x.kept(section, 0), row == NONE ? 0 : 1);
         due.is("kept(" + section + ", 1)", x.kept(section, 1), by);
@@ -50,7 +42,7 @@ final class KeptTest {
     }
 
     private static void wrongCalls() {
-        SectionGarden x = withObjects(1);
+        SectionGarden x = Gardens.withObjects(1);
         x.section(0, 0, 4, 0, 0);
         due.is("before any link()", x.kept(0, 0), STATE);
         due.is("no such section", x.kept(1, 0), UNKNOWN);
@@ -65,7 +57,7 @@ final class KeptTest {
     }
 
     private static void rowsInOrder() {
-        SectionGarden x = withObjects(2);
+        SectionGarden x = Gardens.withObjects(2);
         for (int i = 0; i < 8; i++) {
             x.section(i == 7 ? 1 : 0, 2, 8, 0, i);
         }
@@ -105,7 +97,7 @@ final class KeptTest {
     }
 
     private static void groupsToldTwice() {
-        SectionGarden x = withObjects(3);
+        SectionGarden x = Gardens.withObjects(3);
         x.section(1, 0, 4, 0, 0);
         x.section(0, 0, 4, 0, 0);
         x.section(0, 1, 4, 0, 0);
@@ -130,7 +122,7 @@ final class KeptTest {
     }
 
     private static void setsComeWhole() {
-        SectionGarden x = withObjects(2);
+        SectionGarden x = Gardens.withObjects(2);
         x.section(0, 2, 4, 0, 0);
         for (int i = 1; i < 5; i++) {
             x.section(i % 2, 2, 4, 0, 0);
@@ -151,7 +143,7 @@ final class KeptTest {
     }
 
     private static void definitions() {
-        SectionGarden x = withObjects(3);
+        SectionGarden x = Gardens.withObjects(3);
         for (int i = 0; i < 3; i++) {
             x.section(i, 2, 8, 0, 0);
         }
@@ -179,7 +171,7 @@ final class KeptTest {
     }
 
     private static void twoGlobals() {
-        SectionGarden x = withObjects(2);
+        SectionGarden x = Gardens.withObjects(2);
         x.section(0, 2, 8, 0, 0);
         x.section(1, 2, 8, 0, 0);
         x.symbol(0, 1, 0, 0, 1);
@@ -205,7 +197,7 @@ final class KeptTest {
     }
 
     private static void rootsNowhere() {
-        SectionGarden x = withObjects(1);
+        SectionGarden x = Gardens.withObjects(1);
         x.section(0, 2, 8, 0, 0);
         x.section(0, 2, 8, 0, 0);
         x.symbol(0, 1, 0, 0, 2);
@@ -225,7 +217,7 @@ final class KeptTest {
     }
 
     private static void relocationsNowhere() {
-        SectionGarden x = withObjects(1);
+        SectionGarden x = Gardens.withObjects(1);
         x.section(0, 2, 8, 0, 0);
         x.section(0, 2, 8, 0, 0);
         int weak = x.symbol(0, 1, NONE, 0, 2);
@@ -245,7 +237,7 @@ final class KeptTest {
     }
 
     private static void relocationsIntoLost() {
-        SectionGarden x = withObjects(2);
+        SectionGarden x = Gardens.withObjects(2);
         x.section(0, 2, 8, 0, 0);
         x.section(1, 2, 8, 0, 0);
         x.section(1, 2, 8, 0, 0);
@@ -265,7 +257,7 @@ final class KeptTest {
         dueKept(x, 0, 1, 2);
         dueKept(x, 1, NONE, NONE);
         due.is("LOST", x.kept(1, 3), 1);
-        SectionGarden y = withObjects(2);
+        SectionGarden y = Gardens.withObjects(2);
         y.section(0, 2, 8, 0, 0);
         y.section(1, 2, 8, 0, 0);
         y.section(1, 2, 8, 0, 0);
@@ -277,7 +269,7 @@ final class KeptTest {
     }
 
     private static void firstKindOfFault() {
-        SectionGarden x = withObjects(2);
+        SectionGarden x = Gardens.withObjects(2);
         x.section(0, 2, 8, 0, 0);
         x.section(1, 2, 8, 0, 0);
         x.section(1, 2, 8, 0, 0);
@@ -297,19 +289,6 @@ final class KeptTest {
         dueLink(x, "1 comes before 2", true, 1, 3);
     }
 
-    /** Section 0 keeps and branches to all others, which are code with a LOCAL symbol each (number: section - 1). */
-    private static SectionGarden withTwins(int twins) {
-        SectionGarden x = withObjects(1);
-        x.section(0, 0, 4 * twins, 2, 0);
-        x.mark(0, 0, 1);
-        for (int i = 1; i <= twins; i++) {
-            x.section(0, 0, 8, 2, 5);
-            x.symbol(0, i, i, 0, 0);
-            x.relocation(0, 4 * (i - 1), BRANCH, i - 1, 0);
-        }
-        return x;
-    }
-
     private static void dueFolded(SectionGarden x, String what, int... into) {
         due.is(what + ": link(true)", x.link(true), 0);
         int folded = 0;
@@ -321,7 +300,7 @@ final class KeptTest {
     }
 
     private static void foldingOfPlainTwins() {
-        SectionGarden x = withTwins(3);
+        SectionGarden x = Gardens.withTwins(3);
         dueFolded(x, "three", NONE, 1, 1);
         due.is("KEPT all the same", x.kept(3, 0), 1);
         due.is("count(5)", x.count(5), 4);
@@ -337,7 +316,7 @@ final class KeptTest {
     }
 
     private static void whatMayNotBeFolded() {
-        SectionGarden x = withTwins(3);
+        SectionGarden x = Gardens.withTwins(3);
         x.mark(1, 0, 1);
         dueFolded(x, "the first has KEEP", NONE, NONE, 2);
         x.mark(1, 0, 0);
@@ -349,14 +328,14 @@ final class KeptTest {
         x.relocation(1, 0, 0, 1, 0);
         dueFolded(x, "one has a relocation more and the second's place is taken", NONE, NONE, NONE);
 
-        SectionGarden y = withTwins(2);
+        SectionGarden y = Gardens.withTwins(2);
         y.section(0, 2, 8, 0, 0);
         y.relocation(3, 0, 2, 1, 0);
         dueFolded(y, "what is not KEPT takes a place", NONE, 1);
         y.mark(3, 0, 1);
         dueFolded(y, "what is KEPT takes a place", NONE, NONE);
 
-        SectionGarden z = withObjects(1);
+        SectionGarden z = Gardens.withObjects(1);
         for (int kind = 0; kind < 4; kind++) {
             z.section(0, kind, 4, 0, 1);
             z.section(0, kind, 4, 0, 1);
@@ -375,7 +354,7 @@ final class KeptTest {
     }
 
     private static void whatIsNotAlike() {
-        SectionGarden x = withObjects(1);
+        SectionGarden x = Gardens.withObjects(1);
         x.section(0, 0, 4, 0, 1);
         x.section(0, 1, 4, 0, 1);
         x.section(0, 0, 5, 0, 1);
@@ -409,7 +388,7 @@ final class KeptTest {
         int[][] symbols = {{40, NONE, 2}, {41, NONE, 2}, {0, -2, 0}, {0, -2, 0}, {0, -10, 0}, {0, -3, 0}};
         for (int a = 0; a < symbols.length; a++) {
             for (int b = 0; b < symbols.length; b++) {
-                SectionGarden x = withTwins(2);
+                SectionGarden x = Gardens.withTwins(2);
                 int one = x.symbol(0, symbols[a][0], symbols[a][1], 0, symbols[a][2]);
                 int other = x.symbol(0, symbols[b][0], symbols[b][1], 0, symbols[b][2]);
                 x.relocation(1, 0, 1, one, 7);
@@ -419,7 +398,7 @@ final class KeptTest {
         }
         int[][] changed = {{0, 1, 0, 7}, {2, 1, 0, 7}, {0, 0, 0, 7}, {0, 1, 1, 7}, {0, 1, 0, 8}};
         for (int i = 0; i < changed.length; i++) {
-            SectionGarden x = withTwins(2);
+            SectionGarden x = Gardens.withTwins(2);
             x.section(0, 2, 4, 0, 0);
             int first = x.symbol(0, 0, 3, 0, 0);
             x.symbol(0, 0, 3, 1, 0);
@@ -431,17 +410,17 @@ final class KeptTest {
     }
 
     private static void foldingOfCircles() {
-        SectionGarden x = withTwins(2);
+        SectionGarden x = Gardens.withTwins(2);
         x.relocation(1, 0, BRANCH, 0, 0);
         x.relocation(2, 0, BRANCH, 1, 0);
         dueFolded(x, "each to itself", NONE, 1);
 
-        SectionGarden y = withTwins(2);
+        SectionGarden y = Gardens.withTwins(2);
         y.relocation(1, 0, BRANCH, 1, 0);
         y.relocation(2, 0, BRANCH, 0, 0);
         dueFolded(y, "each to the other", NONE, 1);
 
-        SectionGarden z = withTwins(5);
+        SectionGarden z = Gardens.withTwins(5);
         z.relocation(1, 0, BRANCH, 1, 0);
         z.relocation(2, 0, BRANCH, 2, 0);
         z.relocation(3, 0, BRANCH, 0, 0);
@@ -454,7 +433,7 @@ final class KeptTest {
 
     private static void foldingInChains() {
         int links = 28;
-        SectionGarden x = withTwins(2 * links);
+        SectionGarden x = Gardens.withTwins(2 * links);
         for (int i = 1; i < links; i++) {
             x.relocation(i, 0, BRANCH, i, 0);
             x.relocation(links + i, 0, BRANCH, links + i, 0);
@@ -471,12 +450,12 @@ final class KeptTest {
     }
 
     private static void foldedIsFoundWithFaults() {
-        SectionGarden x = withTwins(2);
+        SectionGarden x = Gardens.withTwins(2);
         x.root(50);
         dueLink(x, "folding with a fault", true, 2, 0);
         due.is("kept(2, 2)", x.kept(2, 2), 1);
         due.is("count(6)", x.count(6), 1);
-        SectionGarden y = withTwins(2);
+        SectionGarden y = Gardens.withTwins(2);
         int nowhere = y.symbol(0, 50, NONE, 0, 1);
         y.relocation(0, 0, 0, nowhere, 0);
         dueLink(y, "folding with a fault", true, 3, 2);
@@ -484,7 +463,7 @@ final class KeptTest {
     }
 
     private static void counts() {
-        SectionGarden x = withObjects(3);
+        SectionGarden x = Gardens.withObjects(3);
         x.section(0, 0, 4, 0, 0);
         x.section(0, 3, 4, 0, 0);
         x.symbol(0, 1, 0, 0, 1);

@@ -25,14 +25,6 @@ final class ToldTest {
         due.end();
     }
 
-    private static SectionGarden withObjects(int objects) {
-        SectionGarden x = new SectionGarden();
-        for (int i = 0; i < objects; i++) {
-            x.object();
-        }
-        return x;
-    }
-
     private static void newObject() {
         SectionGarden x = new SectionGarden();
         for (int what = 0; what <= 8; what++) {
@@ -63,7 +55,7 @@ final class ToldTest {
     }
 
     private static void sections() {
-        SectionGarden x = withObjects(2);
+        SectionGarden x = Gardens.withObjects(2);
         due.is("section(2, 0, 1, 0, 0)", x.section(2, 0, 1, 0, 0), UNKNOWN);
         due.is("section(-1, 0, 1, 0, 0)", x.section(-1, 0, 1, 0, 0), UNKNOWN);
         due.is("section(2, 9, 1, 0, 0)", x.section(2, 9, 1, 0, 0), UNKNOWN);
@@ -86,7 +78,7 @@ final class ToldTest {
     }
 
     private static void roomForSections() {
-        SectionGarden x = withObjects(1);
+        SectionGarden x = Gardens.withObjects(1);
         due.is("20000", x.section(0, 0, 20000, 0, 0), 0);
         due.is("40000", x.section(0, 3, 20000, 0, 0), 1);
         due.is("59999", x.section(0, 2, 19999, 0, 0), 2);
@@ -102,7 +94,7 @@ final class ToldTest {
     }
 
     private static void patches() {
-        SectionGarden x = withObjects(1);
+        SectionGarden x = Gardens.withObjects(1);
         x.section(0, 0, 4, 0, 7);
         x.section(0, 3, 4, 0, 7);
         due.is("patch(0, 1, 300)", x.patch(0, 1, 300), 8);
@@ -119,7 +111,7 @@ final class ToldTest {
     }
 
     private static void marks() {
-        SectionGarden x = withObjects(1);
+        SectionGarden x = Gardens.withObjects(1);
         x.section(0, 3, 4, 0, 7);
         due.is("KEEP", x.mark(0, 0, 1), 0);
         due.is("KEEP once more", x.mark(0, 0, 1), 1);
@@ -145,7 +137,7 @@ final class ToldTest {
     }
 
     private static void symbols() {
-        SectionGarden x = withObjects(2);
+        SectionGarden x = Gardens.withObjects(2);
         due.is("no section yet", x.symbol(0, 0, 0, 0, 1), UNKNOWN);
         x.section(0, 0, 4, 0, 0);
         x.section(1, 3, 4, 0, 0);
@@ -185,7 +177,7 @@ final class ToldTest {
     }
 
     private static void relocations() {
-        SectionGarden x = withObjects(2);
+        SectionGarden x = Gardens.withObjects(2);
         x.section(0, 0, 8, 0, 0);
         x.section(0, 3, 8, 0, 0);
         x.section(0, 1, 8, 0, 0);
@@ -213,7 +205,7 @@ final class ToldTest {
 
     private static void relocationsAtTheEdge() {
         int[] widths = {4, 2, 4, 2, 1};
-        SectionGarden x = withObjects(1);
+        SectionGarden x = Gardens.withObjects(1);
         x.section(0, 0, 8, 0, 0);
         x.symbol(0, 0, 0, 0, 1);
         for (int type = 0; type < 5; type++) {
@@ -255,7 +247,7 @@ final class ToldTest {
 
     /** One section and one symbol, linked. */
     private static SectionGarden linked() {
-        SectionGarden x = withObjects(1);
+        SectionGarden x = Gardens.withObjects(1);
         x.section(0, 0, 4, 0, 0);
         x.symbol(0, 0, 0, 0, 1);
         x.mark(0, 0, 1);
