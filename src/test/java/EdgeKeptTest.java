@@ -32,6 +32,7 @@ final class EdgeKeptTest {
         aChainOfSixty();
         aCircleEnds();
         setsByStartAndByStop();
+        aSetFromTheFirstSectionToTheLast();
         aSetOfNothing();
         whatHasNoSetComesByNone();
         groupsComeWhole();
@@ -44,6 +45,7 @@ final class EdgeKeptTest {
         aPlaceTakenThroughADefinition();
         theFirstByNumberStays();
         bytesThatAreAlike();
+        bytesAlikeByPatchesAlone();
         numbersThatAreAlike();
         fiftyNineAlike();
         twoGlobalDefinitions();
@@ -296,6 +298,17 @@ final class EdgeKeptTest {
         }
     }
 
+    private static void aSetFromTheFirstSectionToTheLast() {
+        SectionGarden x = ofObjects(1, 0, 0, 0, 0);
+        x.mark(0, 1, 0);
+        x.mark(3, 1, 0);
+        x.mark(2, 0, 1);
+        x.relocation(2, 0, WORD, x.symbol(0, 0, -10, 0, LOCAL), 0);
+        dueLink(x, "first and last", 0, NONE);
+        dueAll(x, "first and last", 4, 1, NONE, 0, 2);
+        dueAll(x, "first and last", 1, 2, NONE, NONE, 2);
+    }
+
     private static void aSetOfNothing() {
         SectionGarden x = ofObjects(1, 0, 0);
         x.mark(0, 0, 1);
@@ -476,6 +489,21 @@ final class EdgeKeptTest {
                 alike[i]);
             due.is("empty ones, seeds 0 and " + seeds[i],
                 foldedInto(new int[] {0, 0, 0, 0}, new int[] {0, 0, 0, seeds[i]}), 1);
+        }
+    }
+
+    private static void bytesAlikeByPatchesAlone() {
+        SectionGarden x = Gardens.keeping(0, 8);
+        x.section(0, 1, 3, 0, 5);
+        x.section(0, 1, 3, 0, 9);
+        x.relocation(0, 0, BRANCH, x.symbol(0, 1, 1, 0, LOCAL), 0);
+        x.relocation(0, 4, BRANCH, x.symbol(0, 2, 2, 0, LOCAL), 0);
+        int[][] patches = {{1, 6}, {2, 7}, {0, 5}, {2, 8}, {2, 7}, {0, 4}};
+        int[] into = {NONE, NONE, 1, NONE, 1, NONE};
+        for (int i = 0; i < patches.length; i++) {
+            x.patch(2, patches[i][0], patches[i][1]);
+            dueLink(x, "by patch " + i, 0, NONE);
+            due.is("by patch " + i, x.kept(2, 2), into[i]);
         }
     }
 
