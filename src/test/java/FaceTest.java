@@ -43,7 +43,8 @@ final class FaceTest {
         due.is("a public constructor", Modifier.isPublic(constructors[0].getModifiers()) ? 1 : 0, 1);
         for (Class<?> inside : SectionGarden.class.getDeclaredClasses()) {
             int seen = inside.getModifiers() & (Modifier.PUBLIC | Modifier.PROTECTED);
-            due.is(inside + " is static and not public", seen == 0 && Modifier.isStatic(inside.getModifiers()) ? 1 : 0, 1);
+            boolean fine = seen == 0 && Modifier.isStatic(inside.getModifiers());
+            due.is(inside + " is static and not public", fine ? 1 : 0, 1);
         }
         due.end();
     }

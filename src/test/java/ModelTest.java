@@ -203,8 +203,9 @@ final class ModelTest {
 
     private void setBase() {
         int kind = chance.nextInt(4);
-        int place = chance.nextInt(5) == 0 ? -1 : chance.nextInt(3) == 0 ? 4090 + chance.nextInt(60) : chance.nextInt(90000);
-        pair.tellBase(kind, place);
+        boolean none = chance.nextInt(5) == 0;
+        int place = chance.nextInt(3) == 0 ? 4090 + chance.nextInt(60) : chance.nextInt(90000);
+        pair.tellBase(kind, none ? -1 : place);
     }
 
     private void patch() {

@@ -55,7 +55,7 @@ final class RefusedTest {
         due.is(call + " told nothing", Snapshot.ofWhatWasTold(asked).equals(told) ? 1 : 0, 1);
     }
 
-    /** Two objects: code with KEEP (8 bytes), zeros; data of a set, constants of a group; four symbols, two relocations. */
+    /** Two objects: code with KEEP, zeros; data of a set, constants of a group; four symbols, two relocations. */
     private static SectionGarden plain() {
         SectionGarden x = new SectionGarden();
         x.object();
