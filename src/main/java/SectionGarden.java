@@ -384,8 +384,9 @@ public final class SectionGarden {
         final int at;
         int value;
 
-        Patch(int at) {
+        Patch(int at, int value) {
             this.at = at;
+            this.value = value;
         }
     }
 
@@ -424,26 +425,23 @@ public final class SectionGarden {
         }
 
         int byteAt(int i) {
-            Patch patch = patchAt(i);
-            return patch == null ? (seed + i) & 255 : patch.value;
+            for (int p = 0; p < patches.size(); p++) {
+                if (patches.get(p).at == i) {
+                    return patches.get(p).value;
+                }
+            }
+            return (seed + i) & 255;
         }
 
         void setByte(int i, int v) {
-            Patch patch = patchAt(i);
-            if (patch == null) {
-                patch = new Patch(i);
-                patches.add(patch);
-            }
-            patch.value = v & 255;
-        }
-
-        private Patch patchAt(int i) {
+            int value = v & 255;
             for (int p = 0; p < patches.size(); p++) {
                 if (patches.get(p).at == i) {
-                    return patches.get(p);
+                    patches.get(p).value = value;
+                    return;
                 }
             }
-            return null;
+            patches.add(new Patch(i, value));
         }
 
         /** Whether the bytes are the same as those of a section of the same size. */

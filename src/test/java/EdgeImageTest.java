@@ -52,6 +52,7 @@ final class EdgeImageTest {
         emptyKindsInsideAnother();
         alignsCountForAKind();
         asAllIsPlacedAtLast();
+        theFirstKindThatThereIs();
         whatNeedNotFit();
         theLeastThatDoesNotFit();
         placesInEveryState();
@@ -609,6 +610,52 @@ final class EdgeImageTest {
         dueLink(x, "a veneer over the data", 5, 2);
         x.base(2, 1004);
         dueLink(x, "two veneers over the data", 5, 2);
+    }
+
+    /** 'the first kind that there is', 'no image then': all six at once, and one after another is mended. */
+    private static void theFirstKindThatThereIs() {
+        SectionGarden x = Gardens.keeping(0, 8, 1, 4, 2, 8);
+        x.object();
+        for (int i = 3; i < 6; i++) {
+            x.section(1, 2, 8, 0, 0);
+        }
+        x.mark(5, 0, 1);
+        x.mark(2, 2, 0);
+        x.mark(3, 2, 0);
+        x.symbol(0, 1, 0, 0, GLOBAL);
+        x.symbol(1, 1, 4, 0, GLOBAL);
+        x.root(1);
+        x.root(2);
+        x.relocation(5, 0, BYTE, x.symbol(1, 6, NONE, 0, WEAK), 256);
+        x.relocation(5, 0, WORD, x.symbol(1, 4, 3, 0, LOCAL), 0);
+        x.relocation(0, 0, WORD, x.symbol(0, 3, NONE, 0, GLOBAL), 0);
+        x.base(2, 4096);
+        dueNoImage(x, 1, 1);
+        x.mark(0, 2, 1);
+        x.mark(4, 2, 1);
+        dueNoImage(x, 2, 1);
+        x.symbol(0, 2, 0, 0, WEAK);
+        dueNoImage(x, 3, 2);
+        x.symbol(0, 3, 0, 0, GLOBAL);
+        dueNoImage(x, 4, 1);
+        x.mark(3, 2, NONE);
+        dueNoImage(x, 5, 2);
+        x.base(2, NONE);
+        dueNoImage(x, 6, 0);
+        x.mark(5, 0, 0);
+        dueLink(x, "all is mended", 0, NONE);
+        due.is("an image", x.octet(4100), 4);
+    }
+
+    private static void dueNoImage(SectionGarden x, int kind, int number) {
+        dueLink(x, "kind " + kind, kind, number);
+        due.is("kind " + kind + ": octet", x.octet(4100), STATE);
+        due.is("kind " + kind + ": veneers", x.veneers(0), STATE);
+        due.is("kind " + kind + ": count(7)", x.count(7), 0);
+        due.isIllegalState("kind " + kind + ": place", () -> x.place(0));
+        due.isIllegalState("kind " + kind + ": value", () -> x.value(0));
+        due.isIllegalState("kind " + kind + ": range", () -> x.range(0, false));
+        due.is("kind " + kind + ": kept", x.kept(0, 0), kind == 1 ? STATE : 1);
     }
 
     /** '6 a relocation of a placed section': not of one that is not KEPT, nor FOLDED. */
