@@ -9,11 +9,18 @@ import java.util.TreeSet;
 
 /** The face is the document's, and nothing beside it can be seen. */
 final class FaceTest {
+    private static final String THROWS =
+        " throws java.lang.IndexOutOfBoundsException java.lang.IllegalStateException";
     private static final Set<String> FACE = new TreeSet<>(Arrays.asList(
         "int object()", "int section(int,int,int,int,int)", "int patch(int,int,int)", "int mark(int,int,int)",
         "int symbol(int,int,int,int,int)", "int relocation(int,int,int,int,int)", "int root(int)",
-        "int base(int,int)", "int link(boolean)", "int fault()", "int kept(int,int)", "long place(int)",
-        "long value(int)", "int octet(long)", "long range(int,boolean)", "int veneers(int)", "int count(int)"));
+        "int base(int,int)", "int link(boolean)", "int fault()", "int kept(int,int)", "long place(int)" + THROWS,
+        "long value(int)" + THROWS, "int octet(long)", "long range(int,boolean)" + THROWS, "int veneers(int)",
+        "int count(int)"));
+
+    private static final Set<String> CONSTANTS = new TreeSet<>(Arrays.asList(
+        "public static final int NONE", "public static final int UNKNOWN", "public static final int OUTSIDE",
+        "public static final int STATE", "public static final int ROOM"));
 
     public static void main(String[] args) {
         Due due = new Due("face");
@@ -29,14 +36,18 @@ final class FaceTest {
         for (Method method : SectionGarden.class.getDeclaredMethods()) {
             if (isSeen(method)) {
                 methods.add(signature(method));
+                due.is(method.getName() + " is public", Modifier.isPublic(method.getModifiers()) ? 1 : 0, 1);
+                due.is(method.getName() + " is static", Modifier.isStatic(method.getModifiers()) ? 1 : 0, 0);
             }
         }
         due.is("the methods are the document's: " + methods, methods.equals(FACE) ? 1 : 0, 1);
-        int constants = 0;
+        Set<String> constants = new TreeSet<>();
         for (Field field : SectionGarden.class.getDeclaredFields()) {
-            constants += isSeen(field) ? 1 : 0;
+            if (isSeen(field)) {
+                constants.add(Modifier.toString(field.getModifiers()) + " " + field.getType() + " " + field.getName());
+            }
         }
-        due.is("constants that can be seen", constants, 5);
+        due.is("the constants are the document's: " + constants, constants.equals(CONSTANTS) ? 1 : 0, 1);
         Constructor<?>[] constructors = SectionGarden.class.getDeclaredConstructors();
         due.is("constructors", constructors.length, 1);
         due.is("parameters of the constructor", constructors[0].getParameterCount(), 0);
@@ -58,6 +69,10 @@ final class FaceTest {
         for (int i = 0; i < method.getParameterCount(); i++) {
             text.append(i == 0 ? "" : ",").append(method.getParameterTypes()[i]);
         }
-        return text.append(")").toString();
+        text.append(")");
+        for (int i = 0; i < method.getExceptionTypes().length; i++) {
+            text.append(i == 0 ? " throws " : " ").append(method.getExceptionTypes()[i].getName());
+        }
+        return text.toString();
     }
 }

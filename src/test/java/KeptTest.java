@@ -460,6 +460,23 @@ final class KeptTest {
         y.relocation(0, 0, 0, nowhere, 0);
         dueLink(y, "folding with a fault", true, 3, 2);
         due.is("kept(2, 2)", y.kept(2, 2), 1);
+        SectionGarden z = Gardens.withTwins(2);
+        z.object();
+        z.section(0, 2, 4, 0, 0);
+        z.section(1, 2, 4, 0, 0);
+        z.section(1, 2, 4, 0, 0);
+        z.mark(3, 2, 0);
+        z.mark(4, 2, 0);
+        z.mark(5, 0, 1);
+        z.relocation(5, 0, 0, z.symbol(1, 50, 4, 0, 0), 0);
+        dueLink(z, "folding with a fault", true, 4, 2);
+        due.is("kept(2, 2)", z.kept(2, 2), 1);
+        due.is("count(6)", z.count(6), 1);
+        z.mark(4, 2, NONE);
+        z.base(2, 4096);
+        dueLink(z, "folding with a fault", true, 5, 2);
+        due.is("kept(2, 2)", z.kept(2, 2), 1);
+        due.is("count(6)", z.count(6), 1);
     }
 
     private static void counts() {
